@@ -23,7 +23,7 @@ public final class ModelTest {
 
   public static void main(String[] args) {
     long seed = args.length > 0 ? Long.parseLong(args[0]) : 1;
-    int rounds = args.length > 1 ? Integer.parseInt(args[1]) : 40000;
+    int rounds = args.length > 1 ? Integer.parseInt(args[1]) : 12000;
     ModelTest test = new ModelTest(seed);
     for (String text : Programs.ALL) {
       test.compare(text, 20000);

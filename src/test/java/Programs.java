@@ -7,6 +7,13 @@ final class Programs {
   static final String VEC =
       "let vec : N -> U0 = \\n. R ((\\k. U0) : N -> U1) N (\\k. \\t. N * t) n;\n";
 
+  /** A function that goes n + 1 uses deep. */
+  static final String DEEP = "R ((\\k. N -> N) : N -> U0) (\\x. x) (\\k. \\r. \\x. S (r x)) ";
+  /** A type of functions with n arguments. */
+  static final String ROW = "let p : N -> U0 = \\n. R ((\\k. U0) : N -> U1) N (\\k. \\t. N -> t) n;\n";
+  /** A type of pairs with 2 to the n-th numbers. */
+  static final String TREE = "let p : N -> U0 = \\n. R ((\\k. U0) : N -> U1) N (\\k. \\t. t * t) n;\n";
+
   static final String[] ALL = {
     "N", "E", "U0", "U1", "7", "S 7", "S (S 0)", "(3 : N)", "N -> N", "N * E", "(x : N) -> N",
     "(x : U0) * x", "(a : U0) -> (b : U1) -> a -> b -> U0", "((x : N) * E) -> U1",
@@ -53,6 +60,28 @@ final class Programs {
     "let c : N -> N = \\n. R ((\\k. N) : N -> U0) n (\\k. \\r. S (S (S (S r)))) n; c (c (c (c (c 1))))",
     "let d : (N -> N) -> N -> N = \\f. \\n. S (S (f n));"
         + " d (d (d (d (d (d (d (d (d (d (d (\\n. n))))))))))) 0",
+    "S 9999",
+    "R ((\\k. N) : N -> U0) 9990 (\\k. \\r. S r) 9",
+    "R ((\\k. N) : N -> U0) 9990 (\\k. \\r. S r) 10",
+    "((\\n. R ((\\k. N) : N -> U0) n (\\k. \\r. S (S (S r))) 3333) : N -> N)",
+    "((\\n. R ((\\k. N) : N -> U0) (S n) (\\k. \\r. S (S (S r))) 3333) : N -> N)",
+    DEEP + "24 0",
+    DEEP + "25 0",
+    "((" + DEEP + "24) : N -> N)",
+    "((" + DEEP + "25) : N -> N)",
+    "((\\f. " + DEEP + "24 (f 0)) : (N -> N) -> N)",
+    "((\\f. R ((\\k. N -> N) : N -> U0) (\\x. f x) (\\k. \\r. \\x. S (r x)) 24 0) : (N -> N) -> N)",
+    ROW + "((\\q. q) : p 59 -> p 59)",
+    ROW + "((\\q. q) : p 60 -> p 60)",
+    ROW + "p 59",
+    ROW + "p 60",
+    ROW + "(p 9, p 9)",
+    TREE + "p 3",
+    TREE + "p 7",
+    TREE + "p 9",
+    TREE + "((\\q. q) : p 7 -> p 7)",
+    "((\\n. R ((\\k. N) : N -> U0) n (\\k. \\r. S r) 499) : N -> N)",
+    "((\\n. R ((\\k. N) : N -> U0) n (\\k. \\r. S r) 498) : N -> N)",
   };
 
   private Programs() {}
