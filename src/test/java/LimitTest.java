@@ -35,7 +35,7 @@ public final class LimitTest {
     DUE.is("26 uses, the last of a stuck one", Due.desk(stuck + "23 0) : (N -> N) -> N)").normal(20000), 6);
     // s's type: its own use, and M's uses within it.
     DUE.is("uses in the type of s", Due.desk(family(23)).check(20000), 0);
-    DUE.is("one more", Due.desk(family(24)).check(20000), 6);
+    DUE.fault(family(24), 6, family(24).indexOf("(\\k. \\r. r) 0") + 1);
     TermDesk desk = Due.desk(Programs.DEEP + "25 0");
     desk.check(20000);
     int typed = desk.cost() - 1;

@@ -76,7 +76,7 @@ final class Maker {
       return let(kind, depth);
     }
     if (n == 1 && depth > 0) {
-      return "((" + under(kind(1), kind, depth - 1) + ")";
+      return usedAtOnce(kind(1), kind, depth - 1);
     }
     if (n < 6) {
       String name = knownOf(kind);
@@ -93,10 +93,8 @@ final class Maker {
     return madeOf(kind, depth);
   }
 
-  /** A function with its type, used at once. */
-  private String under(Kind from, Kind to, int depth) {
-    String body = function(from, to, depth);
-    return body + " : " + from.text() + " -> " + to.text() + ") " + atom(from, depth);
+  private String usedAtOnce(Kind from, Kind to, int depth) {
+    return "((" + function(from, to, depth) + ") : " + from.text() + " -> " + to.text() + ") " + atom(from, depth);
   }
 
   private String let(Kind kind, int depth) {
@@ -146,7 +144,7 @@ final class Maker {
   private String madeOf(Kind kind, int depth) {
     String empty = knownOf(EMPTY);
     if (empty != null && random.nextInt(4) == 0) {
-      return "X " + (kind.a == null ? kind.text() : kind.text()) + " " + empty;
+      return "X " + kind.text() + " " + empty;
     }
     switch (kind.head) {
       case "->":
@@ -170,7 +168,7 @@ final class Maker {
   }
 
   private String recursion(Kind kind, String universe, int depth) {
-    String step = "(\\" + "k. " + function(kind, kind, depth - 1) + ")";
+    String step = "(\\k. " + function(kind, kind, depth - 1) + ")";
     return "R ((\\k. " + kind.text() + ") : N -> " + universe + ") " + atom(kind, depth - 1) + " " + step + " "
         + atom(NUMBERS, depth - 1);
   }

@@ -1,4 +1,4 @@
-/** Texts with right types that use every rule of the document, for tests that look at whole programs. */
+/** Texts, most with right types, that use every rule of the document, for tests that look at whole programs. */
 final class Programs {
   static final String ADD =
       "let add : N -> N -> N = \\m. \\n. R ((\\k. N) : N -> U0) n (\\k. \\r. S r) m;\n";
@@ -7,6 +7,10 @@ final class Programs {
   static final String VEC =
       "let vec : N -> U0 = \\n. R ((\\k. U0) : N -> U1) N (\\k. \\t. N * t) n;\n";
 
+  /** A proof that n + 0 is n for every n. */
+  static final String INDUCTION = ADD + EQ
+      + "((\\n. R ((\\k. eq (add k 0) k) : N -> U1) (\\p. \\t. t) (\\k. \\r. \\p. r (\\j. p (S j))) n)"
+      + " : (n : N) -> eq (add n 0) n)";
   /** A function that goes n + 1 uses deep. */
   static final String DEEP = "R ((\\k. N -> N) : N -> U0) (\\x. x) (\\k. \\r. \\x. S (r x)) ";
   /** A type of functions with n arguments. */
@@ -34,8 +38,7 @@ final class Programs {
     "((\\e. \\p. \\t. t) : (e : E) -> (p : N -> U0) -> p (X N e) -> p (X N e))",
     "((\\e. X (N -> N) e 3) : E -> N)",
     "((\\n. R ((\\k. N) : N -> U0) 0 (\\k. \\r. S r) (S (S n))) : N -> N)",
-    ADD + EQ + "((\\n. R ((\\k. eq (add k 0) k) : N -> U1) (\\p. \\t. t) (\\k. \\r. \\p. r (\\j. p (S j))) n)"
-        + " : (n : N) -> eq (add n 0) n)",
+    INDUCTION,
     ADD + EQ + "((\\p. \\t. t) : eq (add 2 3) 5)",
     ADD + EQ + "((\\p. \\t. t) : eq (add 2 3) 6)",
     VEC + "((1, (2, 3)) : vec 2)",

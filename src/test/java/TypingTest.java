@@ -135,7 +135,8 @@ public final class TypingTest {
 
   /** The same under a name x of a type. */
   private static void alikeWith(String of, String type, String a, String b, boolean want) {
-    String text = "((\\x. \\p. \\t. t) : (x : " + of + ") -> (p : (" + type + ") -> U0) -> p (" + a + ") -> p (" + b + "))";
+    String types = "(x : " + of + ") -> (p : (" + type + ") -> U0) -> p (" + a + ") -> p (" + b + ")";
+    String text = "((\\x. \\p. \\t. t) : " + types + ")";
     TermDesk desk = Due.desk(text);
     DUE.is(text, desk.check(20000), want ? 0 : 3);
     DUE.is("place of " + text, desk.place(), want ? -1 : 14);
@@ -154,7 +155,9 @@ public final class TypingTest {
     alikeWith("N", "N", "S x", "x", false);
     alikeWith("N", "N", "S x", "S (S x)", false);
     alikeWith("N", "N", "S x", "1", false);
+    alikeWith("N", "N", "1", "S x", false);
     alikeWith("N", "N", "x", "0", false);
+    alikeWith("N", "N", "R ((\\k. N) : N -> U0) 0 (\\k. \\r. k) (S x)", "x", true);
     alikeWith("N -> N", "N -> N", "x", "\\y. x y", true);
     alikeWith("N -> N", "N -> N", "\\y. x y", "x", true);
     alikeWith("N -> N", "N", "x 1", "x 1", true);
@@ -165,19 +168,20 @@ public final class TypingTest {
     alikeWith("N * N", "N", "x.1", "x.2", false);
     alikeWith("E", "N", "X N x", "X N x", true);
     alikeWith("E * E", "N", "X N x.1", "X N x.2", false);
-    alikeWith("N", "N", "R ((\\k. N) : N -> U0) 0 (\\k. \\r. r) x", "R ((\\k. N) : N -> U0) 0 (\\i. \\j. j) x", true);
-    alikeWith("N", "N", "R ((\\k. N) : N -> U0) 0 (\\k. \\r. r) x", "R ((\\k. N) : N -> U0) 1 (\\k. \\r. r) x", false);
-    alikeWith("N", "N", "R ((\\k. N) : N -> U0) 0 (\\k. \\r. r) x", "R ((\\k. N) : N -> U0) 0 (\\k. \\r. k) x", false);
-    alikeWith("N", "N", "R ((\\k. N) : N -> U0) 0 (\\k. \\r. r) x", "R ((\\k. N) : N -> U0) 0 (\\k. \\r. r) (S x)", true);
-    alikeWith("N", "N", "R ((\\k. N) : N -> U0) 0 (\\k. \\r. S r) x", "R ((\\k. N) : N -> U0) 0 (\\k. \\r. S r) (S x)",
-        false);
+    String r = "R ((\\k. N) : N -> U0) ";
+    alikeWith("N", "N", r + "0 (\\k. \\r. r) x", r + "0 (\\i. \\j. j) x", true);
+    alikeWith("N", "N", r + "0 (\\k. \\r. r) x", r + "1 (\\k. \\r. r) x", false);
+    alikeWith("N", "N", r + "0 (\\k. \\r. r) x", r + "0 (\\k. \\r. k) x", false);
+    alikeWith("N", "N", r + "0 (\\k. \\r. r) x", r + "0 (\\k. \\r. r) (S x)", true);
+    alikeWith("N", "N", r + "0 (\\k. \\r. S r) x", r + "0 (\\k. \\r. S r) (S x)", false);
+    alikeWith("N", "N", r + "0 (\\k. \\r. S r) x", "R ((\\k. (N : U0)) : N -> U0) 0 (\\k. \\r. S r) x", true);
     DUE.check("((\\f. f) : ((x : N) -> N) -> N -> N)", 0, -1, "(x0:(x0:N)->N)->(x1:N)->N");
     DUE.fault("((\\f. f) : (N * N) -> N -> N)", 3, 6);
     DUE.fault("((\\f. f) : (E -> N) -> N -> N)", 3, 6);
     DUE.fault("((\\f. f) : (N -> E) -> N -> N)", 3, 6);
     DUE.check(Programs.ADD + Programs.EQ + "((\\p. \\t. t) : eq (add 2 3) 5)", 0, -1,
         "(x0:(x0:N)->U0)->(x1:(x0 5))->(x0 5)");
-    DUE.is("a proof by R", Due.desk(Programs.ALL[31]).check(20000), 0);
+    DUE.is("a proof by R", Due.desk(Programs.INDUCTION).check(20000), 0);
   }
 
   private static void refused() {
