@@ -96,8 +96,7 @@ public final class CostTest {
   }
 
   private static void inAll() {
-    String dear = "R ((\\k. N) : N -> U0) 0 (\\k. \\r. S r) 9999";
-    TermDesk desk = Due.desk(dear);
+    TermDesk desk = Due.desk(Programs.DEAR);
     for (int i = 0; i < 7; i++) {
       DUE.is("looking " + i, desk.normal(20000), 4);
       DUE.is("its cost", desk.cost(), 20000);

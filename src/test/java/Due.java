@@ -1,6 +1,7 @@
 /** Counts the answers of one test that are not as due, and prints them. */
 final class Due {
   private final String test;
+  private String sentence = "";
   private int asked = 0;
   private int wrong = 0;
 
@@ -8,11 +9,20 @@ final class Due {
     this.test = test;
   }
 
+  /** What comes now tests this sentence of the document. */
+  void sentence(String words) {
+    sentence = " [" + words + "]";
+  }
+
+  private void say(String what, String got, String want) {
+    wrong++;
+    System.out.println(test + sentence + ": " + what + " answered " + got + ", due is " + want);
+  }
+
   void is(String what, long got, long want) {
     asked++;
     if (got != want) {
-      wrong++;
-      System.out.println(test + ": " + what + " answered " + got + ", due is " + want);
+      say(what, "" + got, "" + want);
     }
   }
 
@@ -23,8 +33,7 @@ final class Due {
   void is(String what, String got, String want) {
     asked++;
     if (!got.equals(want)) {
-      wrong++;
-      System.out.println(test + ": " + what + " answered \"" + got + "\", due is \"" + want + "\"");
+      say(what, "\"" + got + "\"", "\"" + want + "\"");
     }
   }
 

@@ -11,6 +11,8 @@ final class Programs {
   static final String INDUCTION = ADD + EQ
       + "((\\n. R ((\\k. eq (add k 0) k) : N -> U1) (\\p. \\t. t) (\\k. \\r. \\p. r (\\j. p (S j))) n)"
       + " : (n : N) -> eq (add n 0) n)";
+  /** What costs more than any fuel to work out. */
+  static final String DEAR = "R ((\\k. N) : N -> U0) 0 (\\k. \\r. S r) 9999";
   /** A function that goes n + 1 uses deep. */
   static final String DEEP = "R ((\\k. N -> N) : N -> U0) (\\x. x) (\\k. \\r. \\x. S (r x)) ";
   /** A type of functions with n arguments. */

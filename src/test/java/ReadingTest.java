@@ -121,26 +121,21 @@ public final class ReadingTest {
     DUE.fault(times("let x:N=1;", 30) + "x", 1, 296);
   }
 
-  /** A pair of pairs with so many numerals: 2 n - 1 nodes. */
-  private static String tree(int n) {
-    return n == 1 ? "1" : "(" + tree(n / 2) + "," + tree(n - n / 2) + ")";
-  }
-
   private static void nodes() {
-    String nearly = tree(150);
+    String nearly = Texts.tree(150);
     int end = nearly.length();
     DUE.fault(nearly, 3, 0);
-    DUE.fault(tree(151), 1, 0);
-    DUE.fault("(" + tree(149) + ",S 1)", 3, 0);
-    DUE.fault("(" + tree(149) + ",S (S 1))", 1, 0);
+    DUE.fault(Texts.tree(151), 1, 0);
+    DUE.fault("(" + Texts.tree(149) + ",S 1)", 3, 0);
+    DUE.fault("(" + Texts.tree(149) + ",S (S 1))", 1, 0);
     DUE.fault("(" + nearly + ",S 1)", 1, end + 2);
     DUE.fault("(" + nearly + ",S 1?", 1, end + 5);
     DUE.fault("(" + nearly + ",S 1 =", 1, end + 2);
     DUE.fault("(" + nearly + ",S =", 1, end + 4);
     DUE.fault("(" + nearly + ",(x : N))", 1, end + 3);
-    DUE.fault("(" + tree(149) + ",(x : S 0))", 1, tree(149).length() + 2);
-    DUE.fault("(" + tree(149) + ",(x : S 0)?", 1, tree(149).length() + 11);
-    DUE.fault("(" + tree(149) + ",(x : N) 1)", 1, tree(149).length() + 10);
+    DUE.fault("(" + Texts.tree(149) + ",(x : S 0))", 1, Texts.tree(149).length() + 2);
+    DUE.fault("(" + Texts.tree(149) + ",(x : S 0)?", 1, Texts.tree(149).length() + 11);
+    DUE.fault("(" + Texts.tree(149) + ",(x : N) 1)", 1, Texts.tree(149).length() + 10);
     DUE.fault("(" + nearly + ",(x : N) -> 1)", 1, end + 13);
   }
 

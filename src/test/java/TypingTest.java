@@ -10,6 +10,7 @@ public final class TypingTest {
     emptyType();
     lets();
     theSame();
+    freshVariables();
     refused();
     DUE.end();
   }
@@ -182,6 +183,26 @@ public final class TypingTest {
     DUE.check(Programs.ADD + Programs.EQ + "((\\p. \\t. t) : eq (add 2 3) 5)", 0, -1,
         "(x0:(x0:N)->U0)->(x1:(x0 5))->(x0 5)");
     DUE.is("a proof by R", Due.desk(Programs.INDUCTION).check(20000), 0);
+  }
+
+  /** The variables that THE SAME and types make are none of those around them, nor one another. */
+  private static void freshVariables() {
+    String[] names = {"w", "x", "y", "a", "b", "c"};
+    String around = "(p : (N -> N -> N -> N) -> U0) -> (w : N) -> (x : N) -> (y : N) -> ";
+    for (String one : names) {
+      for (String other : names) {
+        String given = "p (\\a. \\b. \\c. " + one + ")";
+        String wanted = "p (\\a. \\b. \\c. " + other + ")";
+        int fault = one.equals(other) ? 0 : 3;
+        String functions = "((\\p. \\w. \\x. \\y. \\t. t) : " + around + given + " -> " + wanted + ")";
+        DUE.is(functions, Due.desk(functions).check(20000), fault);
+        String binders = around + "(t : " + given + ") -> ((\\q. N) : " + wanted + " -> U0) t";
+        DUE.is(binders, Due.desk(binders).check(20000), fault);
+      }
+    }
+    String types = "(a : U0) -> (b : U0) -> (x : #) -> ((\\q. N) : b -> U0) x";
+    DUE.check(types.replace("#", "b"), 0, -1, "U1");
+    DUE.fault(types.replace("#", "a"), 3, types.length() - 1);
   }
 
   private static void refused() {
