@@ -174,16 +174,12 @@ public final class TermDesk {
       return false;
     }
 
-    boolean fail(int newFault) {
-      return failAt(newFault, focus);
-    }
-
     boolean spend() {
       if (fault != 0) {
         return false;
       }
       if (spent >= fuel || spentInAll >= MOST_IN_ALL) {
-        return fail(NO_FUEL);
+        return failAt(NO_FUEL, focus);
       }
       spent++;
       spentInAll++;
@@ -261,7 +257,7 @@ public final class TermDesk {
     }
 
     private int height(int node) {
-      return known(node) ? heights[node] : 0;
+      return node >= 0 && node < count ? heights[node] : 0;
     }
 
     int kind(int node) {
@@ -286,7 +282,7 @@ public final class TermDesk {
     }
   }
 
-  /** Cuts the text into tokens; a token's kind is its sign or letter, or one of the constants. */
+  /** Cuts the text into a row of tokens; a token's kind is its sign or letter, or one of the constants. */
   private static final class Tokens {
     static final int BAD = -1;
     static final int END = 0;
@@ -299,78 +295,112 @@ public final class TermDesk {
 
     private static final int MOST_IN_NAME = 8;
     private static final int MOST_DIGITS = 4;
+    private static final int MOST_TOKENS = MOST_CHARS + 1;
 
     private final Meter meter;
     private char[] text = new char[0];
     private int size = 0;
-    int kind = END;
-    int start = 0;
-    int end = 0;
-    private int nextKind = END;
-    private int nextStart = 0;
-    private int nextEnd = 0;
+    private final int[] kinds = new int[MOST_TOKENS];
+    private final int[] starts = new int[MOST_TOKENS];
+    private final int[] ends = new int[MOST_TOKENS];
+    private int count = 0;
+    private int now = 0;
 
     Tokens(Meter meter) {
       this.meter = meter;
     }
 
-    void begin(char[] newText, int newSize) {
+    /** The last token is the text's end, or what is no token. */
+    void cut(char[] newText, int newSize) {
       text = newText;
       size = Math.min(newSize, newText.length);
-      end = 0;
-      advance();
+      count = 0;
+      now = 0;
+      int from = 0;
+      int kind = NAME;
+      while (count < MOST_TOKENS && kind != END && kind != BAD) {
+        while (from < size && (charAt(from) == ' ' || charAt(from) == '\n')) {
+          from++;
+        }
+        kind = from < size ? kindAt(from) : END;
+        kinds[count] = kind;
+        starts[count] = from;
+        from = endOf(kind, from);
+        ends[count] = from;
+        count++;
+      }
+      meet(0);
+    }
+
+    /** What is no token is a fault when the reading comes to it, not before. */
+    private void meet(int i) {
+      if (i < count && kinds[i] == BAD) {
+        meter.failAt(BAD_TEXT, starts[i]);
+      }
     }
 
     void advance() {
-      scan();
-      kind = nextKind;
-      start = nextStart;
-      end = nextEnd;
+      if (now < count - 1) {
+        now++;
+      }
+      meet(now);
     }
 
     boolean colonFollows() {
-      scan();
-      return nextKind == ':';
+      meet(now + 1);
+      return now + 1 < count && kinds[now + 1] == ':';
     }
 
-    private void scan() {
-      int i = end;
-      while (i < size && (charAt(i) == ' ' || charAt(i) == '\n')) {
-        i++;
-      }
-      nextStart = i;
-      nextEnd = i;
-      nextKind = i < size ? scanToken(i) : END;
-      if (nextKind == BAD) {
-        meter.failAt(BAD_TEXT, i);
-      }
+    int kind() {
+      return now < count ? kinds[now] : END;
     }
 
-    private int scanToken(int i) {
+    int start() {
+      return now < count ? starts[now] : 0;
+    }
+
+    int end() {
+      return now < count ? ends[now] : 0;
+    }
+
+    private int kindAt(int i) {
       int c = charAt(i);
-      if (isSmall(c)) {
-        nextEnd = wordEnd(i);
-        return isLet(i, nextEnd) ? LET : NAME;
-      }
-      if (isDigit(c)) {
-        nextEnd = digitsEnd(i);
-        return NUMERAL;
-      }
       int behind = charAt(i + 1);
-      boolean twoLong = c == 'U' || c == '-' || c == '.' && (behind == '1' || behind == '2');
-      nextEnd = twoLong ? i + 2 : i + 1;
       switch (c) {
         case 'U':
-          return isDigit(behind) ? 'U' : BAD;
+          return isDigit(behind) ? c : BAD;
         case '-':
           return behind == '>' ? ARROW : BAD;
         case '.':
-          return twoLong ? behind : '.';
+          return behind == '1' || behind == '2' ? behind : c;
         case 'N': case 'E': case 'S': case 'R': case 'X':
         case '\\': case ':': case '=': case ';': case ',': case '(': case ')': case '*':
           return c;
         default:
-          return BAD;
+          if (isSmall(c)) {
+            return isLet(i, wordEnd(i)) ? LET : NAME;
+          }
+          return isDigit(c) ? NUMERAL : BAD;
+      }
+    }
+
+    private int endOf(int kind, int start) {
+      switch (kind) {
+        case END:
+        case BAD:
+          return start;
+        case NAME:
+        case LET:
+          return wordEnd(start);
+        case NUMERAL:
+          return digitsEnd(start);
+        case 'U':
+        case ARROW:
+        case FIRST:
+        case SECOND:
+          return start + 2;
+        default:
+          return start + 1;
       }
     }
 
@@ -400,7 +430,7 @@ public final class TermDesk {
 
     int numeral() {
       int n = 0;
-      for (int i = start; i < end; i++) {
+      for (int i = start(); i < end(); i++) {
         n = n * 10 + charAt(i) - '0';
       }
       return n;
@@ -443,9 +473,9 @@ public final class TermDesk {
       scope = 0;
       open = 0;
       unknownName = NONE;
-      tokens.begin(text, size);
+      tokens.cut(text, size);
       int whole = term();
-      if (tokens.kind != Tokens.END) {
+      if (tokens.kind() != Tokens.END) {
         refuse();
       }
       if (unknownName != NONE) {
@@ -455,12 +485,12 @@ public final class TermDesk {
     }
 
     private int refuse() {
-      meter.failAt(BAD_TEXT, tokens.start);
+      meter.failAt(BAD_TEXT, tokens.start());
       return NONE;
     }
 
     private boolean take(int kind) {
-      if (tokens.kind != kind) {
+      if (tokens.kind() != kind) {
         refuse();
       } else if (meter.fine()) {
         tokens.advance();
@@ -474,13 +504,13 @@ public final class TermDesk {
       }
       open++;
       int made;
-      if (tokens.kind == '\\') {
+      if (tokens.kind() == '\\') {
         made = function();
-      } else if (tokens.kind == Tokens.LET) {
+      } else if (tokens.kind() == Tokens.LET) {
         made = let();
       } else {
         made = part();
-        if (made != NONE && (tokens.kind == Tokens.ARROW || tokens.kind == '*')) {
+        if (made != NONE && (tokens.kind() == Tokens.ARROW || tokens.kind() == '*')) {
           made = plainType(made);
         }
       }
@@ -489,10 +519,10 @@ public final class TermDesk {
     }
 
     private int function() {
-      int first = tokens.start;
+      int first = tokens.start();
       tokens.advance();
-      int start = tokens.start;
-      int end = tokens.end;
+      int start = tokens.start();
+      int end = tokens.end();
       if (!take(Tokens.NAME) || !take('.')) {
         return NONE;
       }
@@ -503,10 +533,10 @@ public final class TermDesk {
     }
 
     private int let() {
-      int first = tokens.start;
+      int first = tokens.start();
       tokens.advance();
-      int start = tokens.start;
-      int end = tokens.end;
+      int start = tokens.start();
+      int end = tokens.end();
       if (!take(Tokens.NAME) || !take(':')) {
         return NONE;
       }
@@ -525,7 +555,7 @@ public final class TermDesk {
     }
 
     private int plainType(int domain) {
-      int kind = tokens.kind == '*' ? Terms.PAIRS : Terms.FUNCTIONS;
+      int kind = tokens.kind() == '*' ? Terms.PAIRS : Terms.FUNCTIONS;
       tokens.advance();
       int range = term();
       return terms.make(kind, terms.first(domain), Heap.PLAIN, domain, range, NONE, NONE);
@@ -541,14 +571,14 @@ public final class TermDesk {
     }
 
     private boolean beginsAtom() {
-      int kind = tokens.kind;
+      int kind = tokens.kind();
       return kind == Tokens.NAME || kind == Tokens.NUMERAL || kind == 'U' || kind == 'N' || kind == 'E'
           || kind == '(';
     }
 
     private int head() {
-      int first = tokens.start;
-      int kind = tokens.kind;
+      int first = tokens.start();
+      int kind = tokens.kind();
       if (kind != 'S' && kind != 'R' && kind != 'X') {
         return atom(true);
       }
@@ -570,12 +600,12 @@ public final class TermDesk {
       if (!meter.fine() || !beginsAtom()) {
         return refuse();
       }
-      int made = tokens.kind == '(' ? bracket(beginsTerm) : word();
+      int made = tokens.kind() == '(' ? bracket(beginsTerm) : word();
       for (int i = 0; i < MOST_CHARS && made != NONE; i++) {
-        if (tokens.kind != Tokens.FIRST && tokens.kind != Tokens.SECOND) {
+        if (tokens.kind() != Tokens.FIRST && tokens.kind() != Tokens.SECOND) {
           break;
         }
-        int kind = tokens.kind == Tokens.FIRST ? Terms.FIRST : Terms.SECOND;
+        int kind = tokens.kind() == Tokens.FIRST ? Terms.FIRST : Terms.SECOND;
         tokens.advance();
         made = terms.make(kind, terms.first(made), 0, made, NONE, NONE, NONE);
       }
@@ -583,9 +613,9 @@ public final class TermDesk {
     }
 
     private int word() {
-      int kind = tokens.kind;
-      int start = tokens.start;
-      int end = tokens.end;
+      int kind = tokens.kind();
+      int start = tokens.start();
+      int end = tokens.end();
       int value = kind == Tokens.NUMERAL ? tokens.numeral() : 0;
       tokens.advance();
       switch (kind) {
@@ -603,13 +633,13 @@ public final class TermDesk {
     }
 
     private int bracket(boolean beginsTerm) {
-      int first = tokens.start;
+      int first = tokens.start();
       tokens.advance();
-      if (tokens.kind == Tokens.NAME && tokens.colonFollows()) {
+      if (tokens.kind() == Tokens.NAME && tokens.colonFollows()) {
         return named(first, beginsTerm);
       }
       int made = term();
-      int kind = tokens.kind;
+      int kind = tokens.kind();
       if (kind == ')') {
         return take(')') ? made : NONE;
       }
@@ -623,22 +653,22 @@ public final class TermDesk {
     }
 
     private int named(int first, boolean beginsTerm) {
-      int start = tokens.start;
-      int end = tokens.end;
+      int start = tokens.start();
+      int end = tokens.end();
       tokens.advance();
       tokens.advance();
       int type = term();
       if (!take(')')) {
         return NONE;
       }
-      if (tokens.kind != Tokens.ARROW && tokens.kind != '*') {
+      if (tokens.kind() != Tokens.ARROW && tokens.kind() != '*') {
         int name = name(start, end);
         return terms.make(Terms.ANNOTATED, first, 0, name, type, NONE, NONE);
       }
       if (!beginsTerm) {
         return refuse();
       }
-      int kind = tokens.kind == '*' ? Terms.PAIRS : Terms.FUNCTIONS;
+      int kind = tokens.kind() == '*' ? Terms.PAIRS : Terms.FUNCTIONS;
       tokens.advance();
       enter(start, end);
       int range = term();
@@ -763,7 +793,7 @@ public final class TermDesk {
     }
 
     int kind(int cell) {
-      return known(cell) ? kinds[cell] : NONE;
+      return cell >= 0 && cell < count ? kinds[cell] : NONE;
     }
 
     int a(int cell) {
@@ -794,7 +824,7 @@ public final class TermDesk {
 
     /** Right types rule such a value out; the fault keeps the answer an answer all the same. */
     int impossible() {
-      meter.fail(BAD_TYPE);
+      meter.failAt(BAD_TYPE, meter.focus);
       return NONE;
     }
 
@@ -812,29 +842,29 @@ public final class TermDesk {
 
     int successor(int value) {
       if (isStuck(value)) {
-        return make(COUNT, 1, value);
+        return make(COUNT, 1, value, NONE, NONE);
       }
       if (kind(value) != COUNT) {
         return impossible();
       }
       if (a(value) >= MOST_COUNT) {
-        meter.fail(BIG_NUMBER);
+        meter.failAt(BIG_NUMBER, meter.focus);
         return NONE;
       }
-      return make(COUNT, a(value) + 1, b(value));
+      return make(COUNT, a(value) + 1, b(value), NONE, NONE);
     }
 
     /** What stands on the ground of a number with a count below its own. */
     int below(int number, int steps) {
       int ground = b(number);
-      return steps == 0 && ground != NONE ? ground : make(COUNT, steps, ground);
+      return steps == 0 && ground != NONE ? ground : make(COUNT, steps, ground, NONE, NONE);
     }
 
     int half(int value, boolean second) {
       if (kind(value) == PAIR) {
         return second ? b(value) : a(value);
       }
-      return isStuck(value) ? make(second ? SECOND : FIRST, value, NONE) : impossible();
+      return isStuck(value) ? make(second ? SECOND : FIRST, value, NONE, NONE, NONE) : impossible();
     }
 
     int plainCount(int value) {
@@ -861,6 +891,7 @@ public final class TermDesk {
     private static final int END_STEP = 5;
     private static final int BEGIN_REPEAT = 6;
     private static final int REPEAT = 7;
+    private static final int ENTER = 8;
 
     /** The fields of a frame: what it does, two things it does it with, the values found so far. */
     private static final int FIELDS = 8;
@@ -912,6 +943,9 @@ public final class TermDesk {
           case BEGIN_USE:
             beginUse(get(X), get(Y));
             break;
+          case ENTER:
+            enter(get(X), get(Y));
+            break;
           case END_USE:
             uses--;
             deliver(get(VALUES));
@@ -928,14 +962,14 @@ public final class TermDesk {
         }
       }
       if (depth > 0) {
-        meter.fail(NO_FUEL);
+        meter.failAt(NO_FUEL, meter.focus);
       }
       return meter.fine() ? result : NONE;
     }
 
     private void push(int deed, int x, int y) {
       if (depth >= MOST_FRAMES) {
-        meter.fail(TOO_DEEP);
+        meter.failAt(TOO_DEEP, meter.focus);
         return;
       }
       if ((depth + 1) * FIELDS > frames.length) {
@@ -1064,34 +1098,34 @@ public final class TermDesk {
       }
       uses++;
       if (uses > MOST_USES) {
-        meter.fail(TOO_DEEP);
+        meter.failAt(TOO_DEEP, meter.focus);
       } else if (heap.isStuck(function)) {
         uses--;
         deliver(heap.make(Heap.USED, function, argument));
       } else if (heap.isClosure(function)) {
         set(DEED, END_USE);
-        pushClosure(function, argument);
+        push(ENTER, function, argument);
       } else {
         heap.impossible();
       }
     }
 
-    private void pushClosure(int closure, int argument) {
+    private void enter(int closure, int argument) {
       int body = heap.b(closure);
       int names = heap.c(closure);
       switch (heap.d(closure)) {
         case Heap.BINDS:
-          push(BEGIN_NODE, body, heap.bind(names, argument, NONE));
+          become(BEGIN_NODE, body, heap.bind(names, argument, NONE));
           break;
         case Heap.PLAIN:
-          push(BEGIN_NODE, body, names);
+          become(BEGIN_NODE, body, names);
           break;
         case Heap.STEP:
-          push(END_STEP, body, argument);
+          become(END_STEP, body, argument);
           push(BEGIN_USE, body, argument);
           break;
         default:
-          push(BEGIN_USE, body, heap.successor(names));
+          become(BEGIN_USE, body, heap.successor(names));
           break;
       }
     }
@@ -1152,7 +1186,7 @@ public final class TermDesk {
         return false;
       }
       if (depth > MOST_DEPTH) {
-        return meter.fail(TOO_DEEP);
+        return meter.failAt(TOO_DEEP, meter.focus);
       }
       int kind = heap.kind(v);
       int other = heap.kind(w);
@@ -1365,7 +1399,8 @@ public final class TermDesk {
       if (type == NONE) {
         return NONE;
       }
-      if (!isFamily(type, level)) {
+      int range = takesNumbers(type) ? machine.use(type, variable(level)) : NONE;
+      if (heap.kind(range) != Heap.UNIVERSE) {
         return wrong(motive);
       }
       int family = machine.workOut(motive, names);
@@ -1384,9 +1419,8 @@ public final class TermDesk {
       return value == NONE ? NONE : machine.use(family, value);
     }
 
-    private boolean isFamily(int type, int level) {
-      return heap.kind(type) == Heap.FUNCTIONS && heap.kind(heap.a(type)) == Heap.NUMBERS
-          && heap.kind(machine.use(type, variable(level))) == Heap.UNIVERSE;
+    private boolean takesNumbers(int type) {
+      return heap.kind(type) == Heap.FUNCTIONS && heap.kind(heap.a(type)) == Heap.NUMBERS;
     }
 
     private int giveAbsurd(int node, int names, int level) {
@@ -1500,7 +1534,7 @@ public final class TermDesk {
         return;
       }
       if (depth > MOST_DEPTH) {
-        meter.fail(TOO_DEEP);
+        meter.failAt(TOO_DEEP, meter.focus);
         return;
       }
       int kind = heap.kind(value);
@@ -1637,7 +1671,7 @@ public final class TermDesk {
 
     private void put(char c) {
       if (size >= MOST_TOLD) {
-        meter.fail(LONG_TEXT);
+        meter.failAt(LONG_TEXT, meter.focus);
       } else if (meter.fine()) {
         told[size] = c;
         size++;

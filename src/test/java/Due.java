@@ -76,7 +76,8 @@ final class Due {
 
   static String told(TermDesk desk) {
     StringBuilder told = new StringBuilder();
-    for (int i = 0; i < desk.length(); i++) {
+    int length = desk.length();
+    for (int i = 0; i < length; i++) {
       told.append((char) desk.at(i));
     }
     return told.toString();

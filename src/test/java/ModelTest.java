@@ -14,7 +14,7 @@ public final class ModelTest {
   private final int[] faults = new int[8];
   private TermDesk desk = new TermDesk();
   private int universes = 3;
-  private int lookings = 0;
+  private int calls = 0;
   private int left = 150000;
 
   private ModelTest(long seed) {
@@ -94,21 +94,22 @@ public final class ModelTest {
   }
 
   private void compare(String text, int fuel) {
-    if (lookings >= 100) {
-      desk = new TermDesk();
-      universes = 3;
-      lookings = 0;
-      left = 150000;
-    }
-    Due.replace(desk, text);
+    boolean type = random.nextBoolean();
     if (random.nextInt(20) == 0) {
       universes = 1 + random.nextInt(8);
-      desk.levels(universes);
     }
-    boolean type = random.nextBoolean();
     Model.Answer want = Model.look(text, universes, fuel, left, type);
-    lookings++;
+    int needed = 8 + text.length() / 8 + want.told().length();
+    if (calls + needed > 512) {
+      desk = new TermDesk();
+      calls = 0;
+      left = 150000;
+      want = Model.look(text, universes, fuel, left, type);
+    }
+    calls += needed;
     left -= want.cost();
+    Due.replace(desk, text);
+    desk.levels(universes);
     faults[want.fault()]++;
     String what = (type ? "check " : "normal ") + fuel + " with " + universes + " levels of\n" + text + "\n";
     due.is(what, type ? desk.check(fuel) : desk.normal(fuel), want.fault());
