@@ -43,6 +43,7 @@ public final class ReadingEdgeTest {
 
   public static void main(String[] args) {
     oneTerm();
+    fullText();
     tokenByToken();
     tooFewParts();
     whatStandsBehind();
@@ -72,6 +73,20 @@ public final class ReadingEdgeTest {
     DUE.fault("N,N", 1, 1);
     DUE.fault("N:U0", 1, 1);
     DUE.fault("N S 1", 1, 2);
+  }
+
+  private static void fullText() {
+    DUE.sentence("THE TEXT has at most 800 characters");
+    // 300 nodes, and as many tokens as characters.
+    String tokens = Texts.tree(150).replaceFirst("1", "S1");
+    for (int i = 0; i < 101; i++) {
+      tokens = tokens.replaceFirst("([(,])1", "$1(2)");
+    }
+    DUE.is("its characters", tokens.length(), 800);
+    DUE.fault(tokens, 3, 0);
+    DUE.fault(tokens.substring(0, 799), 1, 799);
+    DUE.fault(tokens.substring(0, 799) + "?", 1, 799);
+    DUE.fault(tokens.substring(0, 799) + ";", 1, 799);
   }
 
   /** Where tokens of this text begin. */
