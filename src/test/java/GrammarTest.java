@@ -48,14 +48,7 @@ public final class GrammarTest {
     int length = 1 + random.nextInt(LONG);
     boolean right = true;
     while (row.size() < length && right) {
-      right = false;
-      String token = "";
-      // Few tries leave many wrong tokens, many tries leave few.
-      for (int tries = 1 + random.nextInt(60); tries > 0 && !right; tries--) {
-        token = mix.get(random.nextInt(mix.size()));
-        right = grammar.read(token);
-      }
-      row.add(token);
+      right = random.nextInt(6) == 0 ? bracket(grammar, row) : anyToken(grammar, row);
     }
     if (right && random.nextBoolean()) {
       close(grammar, row);
@@ -65,6 +58,30 @@ public final class GrammarTest {
       }
     }
     compare(row);
+  }
+
+  private boolean anyToken(Grammar grammar, List<String> row) {
+    boolean right = false;
+    String token = "";
+    // Few tries leave many wrong tokens, many tries leave few.
+    for (int tries = 1 + random.nextInt(60); tries > 0 && !right; tries--) {
+      token = mix.get(random.nextInt(mix.size()));
+      right = grammar.read(token);
+    }
+    row.add(token);
+    return right;
+  }
+
+  /** What single tokens seldom come to: a bracket that may be a binder or not. */
+  private boolean bracket(Grammar grammar, List<String> row) {
+    String sign = List.of("->", "*", ")", ".1", "NAME").get(random.nextInt(5));
+    for (String token : List.of("(", "NAME", ":", "N", ")", sign)) {
+      row.add(token);
+      if (!grammar.read(token)) {
+        return false;
+      }
+    }
+    return true;
   }
 
   /** Makes the row a term, with the first tokens that lead there. */
